@@ -74,6 +74,18 @@ final class LookingTest {
         due.is("ramp(1, 4) after a move", x.ramp(1, 4), 1);
         x.pass(0);
         due.is("ramp(1, 4) on the next day", x.ramp(1, 4), 2);
+        x.pass(0);
+        due.is("ramp(1, 3) with a last day to come for both", x.ramp(1, 3), 2);
+        due.is("count(4)", x.count(4), 2);
+        x.pass(0);
+        due.is("ramp(1, 3) with no days to come", x.ramp(1, 3), 0);
+        due.is("count(4)", x.count(4), 0);
+        RampPermits y = new RampPermits();
+        y.addRamp(1000, 1, 7);
+        y.buy(0, 0, 3, 0);
+        due.is("ramp(0, 3) of permit 0", y.ramp(0, 3), 1);
+        due.is("count(4) of permit 0", y.count(4), 1);
+        due.is("money(4) of permit 0", y.money(4), 28);
     }
 
     private void rampDraught() {

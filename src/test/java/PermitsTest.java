@@ -13,6 +13,7 @@ final class PermitsTest {
         test.buyFits();
         test.buyTwelve();
         test.move();
+        test.moveLooksAtDaysToComeOnly();
         test.moveRefused();
         test.cancel();
         test.cancelClosedDays();
@@ -136,6 +137,25 @@ final class PermitsTest {
         due.is("buy before its day", x.buy(2, 10, 12, 0), 1);
         due.is("move(1, 0) before its day", x.move(1, 0), 1170);
         due.is("permit(1, 5)", x.permit(1, 5), 1200);
+    }
+
+    private void moveLooksAtDaysToComeOnly() {
+        due.part("promise 8, days to come");
+        RampPermits x = twoRamps();
+        x.buy(1, 5, 6, 90);
+        x.buy(0, 4, 4, 0);
+        x.buy(0, 7, 7, 0);
+        x.setRate(0, -2);
+        due.is("closed on day 6", x.move(0, 0), ILLEGAL);
+        x.setRate(0, 0);
+        x.setLevel(1980);
+        due.is("closed on both days", x.move(0, 0), ILLEGAL);
+        x.setRate(0, 2);
+        due.is("closed and full on other days only", x.move(0, 0), -18);
+        due.is("permit(0, 0)", x.permit(0, 0), 0);
+        due.is("the ramp that it left has its boat again", x.buy(1, 5, 5, 0), 3);
+        due.is("and the other one", x.buy(1, 5, 5, 0), 4);
+        due.is("the ramp that it came to has not", x.buy(0, 5, 5, 0), ILLEGAL);
     }
 
     private void moveRefused() {

@@ -171,6 +171,8 @@ final class ProgramsTest {
         wrong("Pass 1;", 0, 0);
         wrong("pAss 1;", 0, 0);
         wrong("passs 1;", 0, 0);
+        wrong("passz 1;", 0, 0);
+        wrong("passa 1;", 0, 0);
         wrong("pas 1;", 0, 0);
         wrong("passrate 1;", 0, 0);
         wrong("pass;", 4, 0);

@@ -10,6 +10,7 @@ final class SnapshotsTest {
         SnapshotsTest test = new SnapshotsTest();
         test.take();
         test.restore();
+        test.restoreOtherPermits();
         test.snapshotsBelongToTheState();
         test.undo();
         test.undoOfEachAction();
@@ -109,6 +110,40 @@ final class SnapshotsTest {
         due.isTrue("as before it", season.equals(Calls.seasonOf(x)));
     }
 
+    private void restoreOtherPermits() {
+        due.part("promise 14, other ramps and permits under the same numbers");
+        RampPermits x = new RampPermits();
+        x.take(0);
+        String empty = Calls.seasonOf(x);
+        x.addRamp(1900, 2, 30);
+        x.addRamp(1700, 3, 20);
+        x.buy(0, 0, 5, 40);
+        x.pass(-60);
+        x.pass(0);
+        x.move(0, 1);
+        x.refund(0);
+        x.pass(-300);
+        x.pass(0);
+        x.setLevel(2000);
+        x.cancel(0);
+        due.is("permit(0, 7)", x.permit(0, 7), 40);
+        x.take(1);
+        String first = Calls.seasonOf(x);
+        x.restore(0);
+        due.isTrue("the empty one", empty.equals(Calls.seasonOf(x)));
+        x.addRamp(10, 1, 1);
+        due.is("buy(0, 7, 9, 11)", x.buy(0, 7, 9, 11), 0);
+        int[] want = {0, 7, 9, 11, 1, 3, 0, 0, 0, 0, 0, 3, 0};
+        for (int what = 0; what < want.length; what++) {
+            due.is("permit(0, " + what + ") of the other permit", x.permit(0, what), want[what]);
+        }
+        String other = Calls.seasonOf(x);
+        x.restore(1);
+        due.isTrue("the first one", first.equals(Calls.seasonOf(x)));
+        x.undo();
+        due.isTrue("the other one", other.equals(Calls.seasonOf(x)));
+    }
+
     private void snapshotsBelongToTheState() {
         due.part("promise 14 and 15, snapshots belong to a state");
         RampPermits x = new RampPermits();
@@ -152,12 +187,12 @@ final class SnapshotsTest {
         RampPermits x = busy();
         x.take(0);
         x.take(1);
-        String before = Calls.seasonOf(x);
         for (int action = 0; action < 15; action++) {
+            x.setRate(20, action + 1);
+            String before = Calls.seasonOf(x);
             due.isTrue("action " + action + " succeeds", act(x, action) >= -500);
             due.is("undo() of action " + action, x.undo(), 4);
             due.isTrue("action " + action + " is undone", before.equals(Calls.seasonOf(x)));
-            x.setLevel(x.count(1));
         }
     }
 
