@@ -60,4 +60,30 @@ final class Calls {
     static String stateOf(RampPermits x) {
         return seasonOf(x) + x.count(5) + " " + x.count(6) + " " + x.count(7);
     }
+
+    /** As stateOf(), and the latest failure. */
+    static String wholeStateOf(RampPermits x) {
+        StringBuilder all = new StringBuilder(stateOf(x));
+        for (int what = 0; what <= 4; what++) {
+            all.append(' ').append(x.failure(what));
+        }
+        return all.toString();
+    }
+
+    /** Empties the history and leaves the rest as it is. */
+    static void forgetHistory(RampPermits x) {
+        for (int i = 0; i < 5; i++) {
+            x.setRate(0, x.rate(0));
+        }
+        for (int i = 0; i < 5; i++) {
+            x.undo();
+        }
+    }
+
+    /** Buys a number of permits alike. */
+    static void buyMany(RampPermits x, int number, int ramp, int first, int last) {
+        for (int i = 0; i < number; i++) {
+            x.buy(ramp, first, last, 0);
+        }
+    }
 }
