@@ -87,8 +87,7 @@ abstract class Boundaries {
         RampPermits x = Probe.after(empty, calling).get();
         is("states after " + call, x.count(6), 1);
         is("undo() of " + call, x.undo(), 0);
-        isTrue("undo() of " + call + " makes all as it was",
-            undoableOf(x).equals(undoableOf(empty.get())));
+        isTrue("undo() of " + call + " makes all as it was", undoableOf(x).equals(undoableOf(empty.get())));
         RampPermits full = fullHistory(empty.get());
         calling.applyAsInt(full);
         is("states after " + call + " with a full history", full.count(6), 5);

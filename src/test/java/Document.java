@@ -26,6 +26,10 @@ final class Document {
         }
     }
 
+    static boolean isThere() {
+        return Files.exists(FILE);
+    }
+
     /** "Promise 7" for "## Promise 7: buy". */
     private static String nameOf(String heading) {
         String name = heading.replaceFirst("^#+ ", "");

@@ -92,7 +92,8 @@ final class ForecastBoundaries extends Boundaries {
         is("the last day", Probe.after(Scenes::lastDay, x -> x.setLevel(0)).get().closure(0, 0), 181);
         sentence("Promise 26", "INVALID_ARGUMENT if an argument is out of range");
         refusedOf(Scenes::busy, "closure of ramp", (x, ramp) -> x.closure(ramp, 0), INVALID, LEAST, -1, 3, GREATEST);
-        refusedOf(Scenes::busy, "closure for", (x, draught) -> x.closure(0, draught), INVALID, LEAST, -1, 301, GREATEST);
+        refusedOf(Scenes::busy, "closure for", (x, draught) -> x.closure(0, draught), INVALID, LEAST, -1, 301,
+            GREATEST);
         refusedOf(Scenes::busy, "closure of both", (x, both) -> x.closure(both, both), INVALID, -1, 301);
     }
 
@@ -118,8 +119,8 @@ final class ForecastBoundaries extends Boundaries {
         x.setLevel(1750);
         x.setRate(0, -5);
         x.setRate(1, 5);
-        int[][] days = {{0, 0, 50}, {0, 1, 45}, {1, 1, 45}, {0, 6, 20}, {0, 7, 15}, {7, 7, 15}, {7, 8, 15}, {8, 8, 20},
-            {8, 181, 20}, {14, 181, 50}, {0, 181, 15}, {181, 181, 50}};
+        int[][] days = {{0, 0, 50}, {0, 1, 45}, {1, 1, 45}, {0, 6, 20}, {0, 7, 15}, {7, 7, 15}, {7, 8, 15},
+            {8, 8, 20}, {8, 181, 20}, {14, 181, 50}, {0, 181, 15}, {181, 181, 50}};
         for (int[] d : days) {
             is("draughtFor(0, " + d[0] + ", " + d[1] + ")", x.draughtFor(0, d[0], d[1]), d[2]);
         }
@@ -144,9 +145,12 @@ final class ForecastBoundaries extends Boundaries {
 
     private void draughtForRefused() {
         sentence("Promise 27", "INVALID_ARGUMENT if an argument is out of range");
-        refusedOf(Scenes::busy, "draughtFor of ramp", (x, ramp) -> x.draughtFor(ramp, 2, 2), INVALID, LEAST, 3, GREATEST);
-        refusedOf(Scenes::busy, "draughtFor from", (x, first) -> x.draughtFor(0, first, 2), INVALID, LEAST, -1, 3, GREATEST);
-        refusedOf(Scenes::busy, "draughtFor to", (x, last) -> x.draughtFor(0, 2, last), INVALID, LEAST, 1, 182, GREATEST);
+        refusedOf(Scenes::busy, "draughtFor of ramp", (x, ramp) -> x.draughtFor(ramp, 2, 2), INVALID, LEAST, 3,
+            GREATEST);
+        refusedOf(Scenes::busy, "draughtFor from", (x, first) -> x.draughtFor(0, first, 2), INVALID, LEAST, -1,
+            3, GREATEST);
+        refusedOf(Scenes::busy, "draughtFor to", (x, last) -> x.draughtFor(0, 2, last), INVALID, LEAST, 1, 182,
+            GREATEST);
         refusedOf(Scenes::busy, "draughtFor of all", (x, all) -> x.draughtFor(all, all, all), INVALID, -1, 182);
         sentence("Promise 27", "ILLEGAL_STATE if first is before today");
         refusedOf(Scenes::busy, "draughtFor on day 2 from", (x, first) -> x.draughtFor(0, first, 181), ILLEGAL, 0, 1);
@@ -216,9 +220,11 @@ final class ForecastBoundaries extends Boundaries {
         is("the first ramp", Scenes.oneRamp().bestRamp(0, 29, 300), 0);
         is("the last ramp", Probe.after(Scenes::fourRamps, x -> x.setFee(3, 1)).get().bestRamp(0, 29, 300), 3);
         sentence("Promise 28", "INVALID_ARGUMENT if an argument is out of range");
-        refusedOf(Scenes::busy, "bestRamp from", (x, first) -> x.bestRamp(first, 2, 0), INVALID, LEAST, -1, 3, GREATEST);
+        refusedOf(Scenes::busy, "bestRamp from", (x, first) -> x.bestRamp(first, 2, 0), INVALID, LEAST, -1, 3,
+            GREATEST);
         refusedOf(Scenes::busy, "bestRamp to", (x, last) -> x.bestRamp(2, last, 0), INVALID, LEAST, 1, 32, GREATEST);
-        refusedOf(Scenes::busy, "bestRamp for", (x, draught) -> x.bestRamp(2, 2, draught), INVALID, LEAST, -1, 301, GREATEST);
+        refusedOf(Scenes::busy, "bestRamp for", (x, draught) -> x.bestRamp(2, 2, draught), INVALID, LEAST, -1,
+            301, GREATEST);
         refused(Scenes::busy, "bestRamp from the least to the greatest", x -> x.bestRamp(LEAST, GREATEST, 0), INVALID);
         refused(Scenes::busy, "bestRamp from the greatest to the least", x -> x.bestRamp(GREATEST, LEAST, 0), INVALID);
         sentence("Promise 28", "ILLEGAL_STATE if first is before today");
@@ -232,8 +238,8 @@ final class ForecastBoundaries extends Boundaries {
 
     private void expectedDays() {
         sentence("Promise 29", "if all its days to come passed with the forecast levels");
-        int[][] cases = {{1800, 0, 0, 0}, {1799, 0, 3, 30}, {1801, -1, 1, 10}, {1802, -1, 0, 0}, {1799, 1, 1, 10},
-            {1798, 1, 2, 20}, {0, 50, 3, 30}, {5000, -50, 0, 0}};
+        int[][] cases = {{1800, 0, 0, 0}, {1799, 0, 3, 30}, {1801, -1, 1, 10}, {1802, -1, 0, 0},
+            {1799, 1, 1, 10}, {1798, 1, 2, 20}, {0, 50, 3, 30}, {5000, -50, 0, 0}};
         for (int[] c : cases) {
             RampPermits x = Scenes.onePermit();
             x.setLevel(c[0]);
@@ -241,6 +247,20 @@ final class ForecastBoundaries extends Boundaries {
             is("days lost from " + c[0] + " at a rate of " + c[1], x.expected(0, 0), c[2]);
             is("owed from " + c[0] + " at a rate of " + c[1], x.expected(0, 1), c[3]);
         }
+        RampPermits later = Scenes.oneRamp();
+        later.buy(0, 2, 4, 0);
+        later.setLevel(1699);
+        is("days lost of a later permit that are all closed", later.expected(0, 0), 3);
+        later.setRate(0, 1);
+        is("days lost when it opens before its first day", later.expected(0, 0), 0);
+        later.setLevel(1703);
+        later.setRate(0, -1);
+        is("days lost when it closes on its last day", later.expected(0, 0), 1);
+        later.setLevel(1704);
+        is("days lost when it closes on the day behind it", later.expected(0, 0), 0);
+        later.setFee(0, 500);
+        later.setLevel(1703);
+        is("owed at its own fee", later.expected(0, 1), 10);
         sentence("Promise 29", "0 for the days that would be lost of its days to come, 1 for what would be owed then");
         int[] lost = {3, 2, 1, 0, 0};
         for (int today = 0; today < lost.length; today++) {
@@ -274,7 +294,8 @@ final class ForecastBoundaries extends Boundaries {
         range(Scenes::twelvePermitsOwed, "expected of permit", 0, 11, (x, permit) -> x.expected(permit, 1), 20, 20);
         refusedOf(Scenes::fourRamps, "expected without permits", (x, permit) -> x.expected(permit, 0), INVALID, -1, 0);
         sentence("Promise 29", "INVALID_ARGUMENT if there is no such permit or what is out of range");
-        refusedOf(Scenes::busy, "expected of", (x, permit) -> x.expected(permit, 1), INVALID, LEAST, -1, 5, 12, GREATEST);
+        refusedOf(Scenes::busy, "expected of", (x, permit) -> x.expected(permit, 1), INVALID, LEAST, -1, 5, 12,
+            GREATEST);
         refusedOf(Scenes::busy, "expected of 0", (x, what) -> x.expected(0, what), INVALID, LEAST, -1, 2, GREATEST);
         refusedOf(Scenes::busy, "expected of both", (x, both) -> x.expected(both, both), INVALID, -1, 5);
     }

@@ -25,7 +25,8 @@ final class LookBoundaries extends Boundaries {
     // ---- count
 
     private void countOfSeasons() {
-        sentence("Promise 20", "0 today, 1 the level, 2 the number of ramps, 3 of permits, 4 of permits with days to come");
+        sentence("Promise 20",
+            "0 today, 1 the level, 2 the number of ramps, 3 of permits, 4 of permits with days to come");
         is("the first today", new RampPermits().count(0), 0);
         is("the last today", Scenes.lastDay().count(0), 181);
         RampPermits x = new RampPermits();
@@ -128,7 +129,8 @@ final class LookBoundaries extends Boundaries {
     }
 
     private void rampPermits() {
-        sentence("Promise 21", "3 the number of permits with days to come for it, 4 how many of these have today as a day to come");
+        sentence("Promise 21",
+            "3 the number of permits with days to come for it, 4 how many of these have today as a day to come");
         RampPermits x = Scenes.fourRamps();
         is("no permit", x.ramp(0, 3), 0);
         is("no permit today", x.ramp(0, 4), 0);
@@ -155,7 +157,8 @@ final class LookBoundaries extends Boundaries {
     }
 
     private void rampDraught() {
-        sentence("Promise 21", "5 the greatest draught for which it is open at the level, at most 300 (NONE if it is closed for all)");
+        sentence("Promise 21",
+            "5 the greatest draught for which it is open at the level, at most 300 (NONE if it is closed for all)");
         int[][] cases = {{0, 0, 0}, {1, 0, 1}, {299, 0, 299}, {300, 0, 300}, {301, 0, 300}, {5000, 0, 300},
             {0, 1, NONE}, {0, 4000, NONE}, {3999, 4000, NONE}, {4000, 4000, 0}, {4299, 4000, 299},
             {4300, 4000, 300}, {4301, 4000, 300}, {5000, 4000, 300}};
@@ -186,7 +189,8 @@ final class LookBoundaries extends Boundaries {
         range(Scenes::onePermit, "fee of the only permit", 0, 0, (x, permit) -> x.permit(permit, 4), 10, 10);
         range(Scenes::twelvePermits, "fee of permit", 0, 11, (x, permit) -> x.permit(permit, 4), 10, 10);
         refusedOf(Scenes::fourRamps, "fee without permits", (x, permit) -> x.permit(permit, 4), INVALID, -1, 0, 11);
-        sentence("Promise 22", "0 its ramp, 1 its first and 2 its last day, 3 its draught, 4 its fee for a day, 5 the amount paid");
+        sentence("Promise 22",
+            "0 its ramp, 1 its first and 2 its last day, 3 its draught, 4 its fee for a day, 5 the amount paid");
         RampPermits x = Scenes.fourRamps();
         x.setFee(0, 1);
         x.setFee(3, 500);
@@ -201,7 +205,8 @@ final class LookBoundaries extends Boundaries {
     }
 
     private void permitDays() {
-        sentence("Promise 22", "9 the days used, 10 the days lost, 11 the days to come, 12 1 if it is cancelled and 0 if not");
+        sentence("Promise 22",
+            "9 the days used, 10 the days lost, 11 the days to come, 12 1 if it is cancelled and 0 if not");
         RampPermits x = Scenes.oneRamp();
         x.buy(0, 1, 2, 0);
         x.buy(0, 1, 2, 300);
@@ -236,8 +241,10 @@ final class LookBoundaries extends Boundaries {
         is("the first property", Scenes.busy().permit(4, 0), 2);
         is("the last property", Scenes.busy().permit(1, 12), 1);
         sentence("Promise 22", "INVALID_ARGUMENT if there is no such permit or what is out of range");
-        refusedOf(Scenes::busy, "ramp of permit", (x, permit) -> x.permit(permit, 0), INVALID, LEAST, -1, 5, 12, GREATEST);
-        refusedOf(Scenes::busy, "property of permit 0", (x, what) -> x.permit(0, what), INVALID, LEAST, -1, 13, GREATEST);
+        refusedOf(Scenes::busy, "ramp of permit", (x, permit) -> x.permit(permit, 0), INVALID, LEAST, -1, 5, 12,
+            GREATEST);
+        refusedOf(Scenes::busy, "property of permit 0", (x, what) -> x.permit(0, what), INVALID, LEAST, -1, 13,
+            GREATEST);
         refusedOf(Scenes::busy, "permit of both", (x, both) -> x.permit(both, both), INVALID, -1, 13);
     }
 

@@ -112,7 +112,8 @@ final class PermitBoundaries extends Boundaries {
     }
 
     private void moveAnswers() {
-        sentence("Promise 8", "Returns the difference of the new fee and the old one for all its days to come together");
+        sentence("Promise 8",
+            "Returns the difference of the new fee and the old one for all its days to come together");
         is("the greatest difference", moveOfThirty(1, 500, 0), 14970);
         is("the least difference", moveOfThirty(500, 1, 0), -14970);
         is("no difference", moveOfThirty(7, 7, 0), 0);
@@ -258,7 +259,8 @@ final class PermitBoundaries extends Boundaries {
     // ---- pass
 
     private void passLevel() {
-        sentence("Promise 11", "then the level changes (but stays at least 0 and at most 5000), and the next day is today");
+        sentence("Promise 11",
+            "then the level changes (but stays at least 0 and at most 5000), and the next day is today");
         int[][] cases = {{0, -1, 0}, {0, -500, 0}, {499, -500, 0}, {500, -500, 0}, {501, -500, 1}, {0, 0, 0},
             {0, 500, 500}, {5000, 1, 5000}, {5000, 500, 5000}, {4501, 500, 5000}, {4500, 500, 5000},
             {4499, 500, 4999}, {5000, 0, 5000}, {5000, -500, 4500}};
@@ -321,7 +323,8 @@ final class PermitBoundaries extends Boundaries {
         sentence("Promise 12", "`draught`: 0 to 300");
         range(Scenes::onePermit, "launch with a draught", 0, 300, (x, draught) -> x.launch(0, draught, 0), 0, 20);
         sentence("Promise 12", "`permit`: a permit, or -1 for none");
-        range(Scenes::oneRamp, "launch without permits, with permit", -1, -1, (x, permit) -> x.launch(0, 0, permit), 60, 60);
+        range(Scenes::oneRamp, "launch without permits, with permit", -1, -1,
+            (x, permit) -> x.launch(0, 0, permit), 60, 60);
         range(Scenes::onePermit, "launch with permit", -1, 0, (x, permit) -> x.launch(0, 0, permit), 60, 0);
         range(Scenes::twelvePermits, "launch with permit", -1, 11, (x, permit) -> x.launch(0, 0, permit), 60, 60);
         sentence("Promise 12", "This is an action");

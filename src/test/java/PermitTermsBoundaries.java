@@ -110,6 +110,7 @@ final class PermitTermsBoundaries extends Boundaries {
         x.setFee(1, 1);
         property(x, "when its ramp's fee is another", 0, 4, 10);
         property(x, "when its ramp's fee is another", 0, 5, 30);
+        is("fees of days to come when its ramp's fee is another", x.money(4), 30);
         x.move(0, 1);
         property(x, "when moved", 0, 4, 1);
         x.setFee(1, 500);
@@ -241,20 +242,19 @@ final class PermitTermsBoundaries extends Boundaries {
 
     private void amountsAtFirst() {
         sentence("Money of a permit", "an amount kept, an amount owed and an amount refunded, all 0 at first");
-        RampPermits x = Scenes.onePermit();
-        money(x, "at first", 0, 30, 0, 0, 0);
-        x.setLevel(0);
+        money(Scenes.onePermit(), "at first", 0, 30, 0, 0, 0);
+        money(Scenes.twelvePermits(), "at first", 11, 20, 0, 0, 0);
+        RampPermits x = Scenes.oneRamp();
+        x.take(0);
+        x.buy(0, 0, 2, 0);
+        x.pass(-301);
         x.pass(0);
         x.refund(0);
-        x.undo();
-        x.undo();
-        x.undo();
-        x.undo();
-        is("a permit in place of an undone one", x.buy(0, 0, 0, 0), 0);
-        money(x, "in place of an undone one", 0, 10, 0, 0, 0);
-        property(x, "in place of an undone one", 0, 9, 0);
-        property(x, "in place of an undone one", 0, 10, 0);
-        property(x, "in place of an undone one", 0, 12, 0);
+        x.cancel(0);
+        money(x, "used, lost, refunded and cancelled", 0, 30, 10, 10, 10);
+        x.restore(0);
+        x.buy(0, 0, 2, 0);
+        money(x, "in place of another one", 0, 30, 0, 0, 0);
     }
 
     private void paidWhenBought() {
@@ -289,6 +289,8 @@ final class PermitTermsBoundaries extends Boundaries {
         RampPermits x = moved(0, 1);
         x.move(0, 0);
         money(x, "moved there and back", 0, 57, 0, 27, 0);
+        x.move(0, 1);
+        money(x, "moved there again", 0, 57, 0, 54, 0);
     }
 
     /** A permit for the days 0 to 2 and a draught of 100 that is cancelled. */
@@ -304,14 +306,16 @@ final class PermitTermsBoundaries extends Boundaries {
     }
 
     private void moneyOfACancellation() {
-        sentence("Money of a permit", "half of the fee, rounded down for each day by itself, is owed and the rest kept");
+        sentence("Money of a permit",
+            "half of the fee, rounded down for each day by itself, is owed and the rest kept");
         money(cancelled(1, 0, 2000, 0), "cancelled at a fee of 1", 0, 3, 3, 0, 0);
         money(cancelled(2, 0, 2000, 0), "cancelled at a fee of 2", 0, 6, 3, 3, 0);
         money(cancelled(3, 0, 2000, 0), "cancelled at a fee of 3", 0, 9, 6, 3, 0);
         money(cancelled(499, 0, 2000, 0), "cancelled at a fee of 499", 0, 1497, 750, 747, 0);
         money(cancelled(500, 0, 2000, 0), "cancelled at a fee of 500", 0, 1500, 750, 750, 0);
         money(cancelled(3, 2, 2000, 0), "cancelled on its last day", 0, 9, 8, 1, 0);
-        sentence("Money of a permit", "the whole fee is owed if its ramp is closed for its draught at the forecast level");
+        sentence("Money of a permit",
+            "the whole fee is owed if its ramp is closed for its draught at the forecast level");
         money(cancelled(3, 0, 1800, 0), "just open", 0, 9, 6, 3, 0);
         money(cancelled(3, 0, 1799, 0), "just closed", 0, 9, 0, 9, 0);
         money(cancelled(3, 0, 1799, 1), "closed on its first day", 0, 9, 4, 5, 0);

@@ -2,6 +2,9 @@ import java.util.function.Supplier;
 
 /** Boundary cases of the section Programs and of the promises 16 to 19. */
 final class ProgramBoundaries extends Boundaries {
+    /** Forty characters. */
+    private static final String FORTY = "rate 3 4;".repeat(4) + "    ";
+
     ProgramBoundaries(Due due, Claims claims) {
         super(due, claims);
     }
@@ -31,9 +34,6 @@ final class ProgramBoundaries extends Boundaries {
         failureOrder();
     }
 
-    private static final String FORTY = "rate 3 4;".repeat(4) + "    ";
-
-    /** Runs a text on an object as the scene makes it; what it answers, and how it failed. */
     private void runs(Supplier<RampPermits> scene, String text, int want) {
         is("run of '" + text + "'", Calls.run(scene.get(), text), want);
     }
@@ -80,7 +80,8 @@ final class ProgramBoundaries extends Boundaries {
     }
 
     private void formsOfCommands() {
-        String[][] forms = {{"\"ramp\" END BOATS FEE", "ramp 4000 20 500"}, {"\"rate\" WEEK RATE", "rate 25 -50"},
+        String[][] forms = {{"\"ramp\" END BOATS FEE", "ramp 4000 20 500"},
+            {"\"rate\" WEEK RATE", "rate 25 -50"},
             {"\"buy\" RAMP FIRST LAST DRAUGHT", "buy 1 152 181 300"}, {"\"move\" PERMIT RAMP", "move 0 1"},
             {"\"cancel\" PERMIT", "cancel 0"}, {"\"refund\" PERMIT", "refund 0"}, {"\"pass\" CHANGE", "pass -500"}};
         for (String[] form : forms) {
@@ -108,8 +109,8 @@ final class ProgramBoundaries extends Boundaries {
     private void commandsAreAsCalls() {
         sentence("Programs", "\"ramp\" END BOATS FEE");
         runs(Scenes::onePermit, "ramp 0 1 1;ramp 4000 20 500;", 2);
-        commandRefused(Scenes::onePermit, INVALID, "ramp 4001 1 1;", "ramp 0 0 1;", "ramp 0 21 1;", "ramp 0 1 0;",
-            "ramp 0 1 501;");
+        commandRefused(Scenes::onePermit, INVALID, "ramp 4001 1 1;", "ramp 0 0 1;", "ramp 0 21 1;",
+            "ramp 0 1 0;", "ramp 0 1 501;");
         commandRefused(Scenes::fourRamps, FULL, "ramp 0 1 1;");
         sentence("Programs", "\"rate\" WEEK RATE");
         runs(Scenes::onePermit, "rate 0 50;rate 25 -50;", 2);
@@ -146,9 +147,10 @@ final class ProgramBoundaries extends Boundaries {
     }
 
     private void tokens() {
-        sentence("Programs", "Tokens are maximal runs of letters a to z, maximal runs of digits, and any other character");
-        int[] others = {1, 9, 10, 31, 33, '!', '+', '/', ':', '<', '@', 'A', 'Z', '[', '`', '{', '~', 127, 128, 160,
-            223, 233, 255};
+        sentence("Programs",
+            "Tokens are maximal runs of letters a to z, maximal runs of digits, and any other character");
+        int[] others = {1, 9, 10, 31, 33, '!', '+', '/', ':', '<', '@', 'A', 'Z', '[', '`',
+            '{', '~', 127, 128, 160, 223, 233, 255};
         for (int other : others) {
             String sign = String.valueOf((char) other);
             wrongToken(sign, 0);
@@ -197,9 +199,11 @@ final class ProgramBoundaries extends Boundaries {
     }
 
     private void signs() {
-        sentence("Programs", "RATE and CHANGE may have the token \"-\" in front, and are below 0 then (also \"- 0\" is let)");
+        sentence("Programs",
+            "RATE and CHANGE may have the token \"-\" in front, and are below 0 then (also \"- 0\" is let)");
         RampPermits x = new RampPermits();
-        is("signs", Calls.run(x, "rate 0 -0;rate 1 - 0;rate 2 -1;rate 3 -  50;pass -0;pass - 0;pass -1;pass - 500;"), 8);
+        is("signs",
+            Calls.run(x, "rate 0 -0;rate 1 - 0;rate 2 -1;rate 3 -  50;pass -0;pass - 0;pass -1;pass - 500;"), 8);
         is("rate(0)", x.rate(0), 0);
         is("rate(1)", x.rate(1), 0);
         is("rate(2)", x.rate(2), -1);
@@ -278,7 +282,8 @@ final class ProgramBoundaries extends Boundaries {
     }
 
     private void kinds() {
-        sentence("Programs", "1 a token that is not allowed by the grammar (also a number of more than 4 digits or with a 0 ahead)");
+        sentence("Programs",
+            "1 a token that is not allowed by the grammar (also a number of more than 4 digits or with a 0 ahead)");
         wrongToken("x", 0);
         wrongToken("pass 12345;", 5);
         wrongToken("pass 05;", 5);
@@ -298,7 +303,8 @@ final class ProgramBoundaries extends Boundaries {
     }
 
     private void places() {
-        sentence("Programs", "Its place is the offset (from 0) of the first character of this token, or of the word of this command");
+        sentence("Programs",
+            "Its place is the offset (from 0) of the first character of this token, or of the word of this command");
         wrongToken("x pass 1;", 0);
         wrongToken("   xyz 1;", 3);
         wrongToken("pass   12345;", 7);
@@ -326,7 +332,8 @@ final class ProgramBoundaries extends Boundaries {
     }
 
     private void depths() {
-        sentence("Programs", "Its depth is 1 for the kind 1, and 2 for the others (these have the error code for their cause)");
+        sentence("Programs",
+            "Its depth is 1 for the kind 1, and 2 for the others (these have the error code for their cause)");
         String[] texts = {"x", "pass 501;", "refund 0;", "ramp 0 1 1;ramp 0 1 1;ramp 0 1 1;"};
         int[][] want = {{1, NONE}, {2, INVALID}, {2, ILLEGAL}, {2, FULL}};
         RampPermits x = Scenes.onePermit();
@@ -340,8 +347,10 @@ final class ProgramBoundaries extends Boundaries {
     private void nothingStays() {
         sentence("Programs", "If a program fails, nothing that it has done stays (but the failure)");
         fails(Scenes::busy, "ramp 0 1 1;rate 9 9;buy 3 9 9 0;move 0 1;refund 2;cancel 0;pass -9;x", 1, 67, NONE);
-        fails(Scenes::busy, "ramp 0 1 1;rate 9 9;buy 3 9 9 0;move 0 1;refund 2;cancel 0;pass -9;pass 501;", 2, 67, INVALID);
-        fails(Scenes::busy, "ramp 0 1 1;rate 9 9;buy 3 9 9 0;move 0 1;refund 2;cancel 0;pass -9;refund 2;", 3, 67, ILLEGAL);
+        fails(Scenes::busy, "ramp 0 1 1;rate 9 9;buy 3 9 9 0;move 0 1;refund 2;cancel 0;pass -9;pass 501;", 2,
+            67, INVALID);
+        fails(Scenes::busy, "ramp 0 1 1;rate 9 9;buy 3 9 9 0;move 0 1;refund 2;cancel 0;pass -9;refund 2;", 3,
+            67, ILLEGAL);
         fails(Scenes::fresh, "ramp 0 1 1;ramp 0 1 1;ramp 0 1 1;ramp 0 1 1;ramp 0 1 1;", 3, 44, FULL);
         fails(() -> Scenes.onDay(180), "pass 0;pass 0;", 3, 7, ILLEGAL);
         RampPermits x = Scenes.busy();
@@ -360,7 +369,8 @@ final class ProgramBoundaries extends Boundaries {
             is("append", x.append(length == 1 ? 255 : ' '), length);
         }
         is("length", x.count(7), 140);
-        is("append to a text that was cleared", Probe.after(Scenes::fullText, RampPermits::clearText).get().append(1), 1);
+        is("append to a text that was cleared",
+            Probe.after(Scenes::fullText, RampPermits::clearText).get().append(1), 1);
         sentence("Promise 16", "INVALID_ARGUMENT if character is out of range");
         refusedOf(Scenes::busy, "append", RampPermits::append, INVALID, LEAST, -1, 0, 256, 65536 + ' ', GREATEST);
         sentence("Promise 16", "CAPACITY_EXCEEDED if the text already has 140 characters");
@@ -434,7 +444,8 @@ final class ProgramBoundaries extends Boundaries {
     }
 
     private void failureParts() {
-        sentence("Promise 19", "0 its kind, 1 its place, 2 its depth, 3 the error code of the call (NONE for the kind 1), 4 the number");
+        sentence("Promise 19",
+            "0 its kind, 1 its place, 2 its depth, 3 the error code of the call (NONE for the kind 1), 4 the number");
         String[] texts = {"pass 1; x", "pass 1; pass 501;", "pass 1; ramp 0 1 1; ramp 0 1 1; ramp 0 1 1;", "x",
             "ramp 0 1 1;ramp 0 1 1;pass 1;refund 0;"};
         int[][] want = {{1, 8, 1, NONE, 1}, {2, 8, 2, INVALID, 1}, {3, 32, 2, FULL, 3}, {1, 0, 1, NONE, 0},

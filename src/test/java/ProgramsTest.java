@@ -219,22 +219,22 @@ final class ProgramsTest {
 
     private void wrongCalls() {
         due.part("promise 18 and 19, calls");
-        RampPermits x = new RampPermits();
-        wrongCall(x, "ramp 4001 1 1;", 2, 0, INVALID, 0);
-        wrongCall(x, " pass 1 ; rate 0 51 ; x", 2, 10, INVALID, 1);
-        wrongCall(x, "pass 501;", 2, 0, INVALID, 0);
-        wrongCall(x, "buy 0 0 0 0;", 2, 0, INVALID, 0);
-        wrongCall(x, "cancel 0;", 2, 0, INVALID, 0);
-        wrongCall(x, "refund 0;", 2, 0, INVALID, 0);
-        wrongCall(x, "move 0 0;", 2, 0, INVALID, 0);
-        wrongCall(x, "ramp 1 1 1;".repeat(4) + " ramp 1 1 1; ;", 3, 45, FULL, 4);
-        x.addRamp(1900, 1, 20);
-        wrongCall(x, "buy 0 0 0 101;", 3, 0, ILLEGAL, 0);
-        wrongCall(x, "buy 0 0 1 5;refund 0;", 3, 12, ILLEGAL, 1);
-        wrongCall(x, "buy 0 0 1 5;move 0 0;", 3, 12, ILLEGAL, 1);
-        wrongCall(x, "buy 0 0 1 5;pass 0;pass 0; cancel 0;", 3, 27, ILLEGAL, 3);
-        Calls.passDays(x, 181);
-        wrongCall(x, "rate 0 1;pass 0;", 3, 9, ILLEGAL, 1);
+        wrongCall(new RampPermits(), "ramp 4001 1 1;", 2, 0, INVALID, 0);
+        wrongCall(new RampPermits(), " pass 1 ; rate 0 51 ; x", 2, 10, INVALID, 1);
+        wrongCall(new RampPermits(), "pass 501;", 2, 0, INVALID, 0);
+        wrongCall(new RampPermits(), "buy 0 0 0 0;", 2, 0, INVALID, 0);
+        wrongCall(new RampPermits(), "cancel 0;", 2, 0, INVALID, 0);
+        wrongCall(new RampPermits(), "refund 0;", 2, 0, INVALID, 0);
+        wrongCall(new RampPermits(), "move 0 0;", 2, 0, INVALID, 0);
+        wrongCall(new RampPermits(), "ramp 1 1 1;".repeat(4) + " ramp 1 1 1; ;", 3, 45, FULL, 4);
+        wrongCall(Scenes.oneRamp(), "buy 0 0 0 301;", 2, 0, INVALID, 0);
+        wrongCall(Scenes.oneRamp(), "pass -1; buy 0 1 1 300;", 3, 9, ILLEGAL, 1);
+        wrongCall(Scenes.oneRamp(), "buy 0 0 1 5;refund 0;", 3, 12, ILLEGAL, 1);
+        wrongCall(Scenes.oneRamp(), "buy 0 0 1 5;move 0 0;", 3, 12, ILLEGAL, 1);
+        wrongCall(Scenes.oneRamp(), "buy 0 0 1 5;pass 0;pass 0; cancel 0;", 3, 27, ILLEGAL, 3);
+        RampPermits last = new RampPermits();
+        Calls.passDays(last, 181);
+        wrongCall(last, "rate 0 1;pass 0;", 3, 9, ILLEGAL, 1);
     }
 
     private void nothingStaysOfAFailure() {

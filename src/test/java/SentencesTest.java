@@ -40,6 +40,10 @@ final class SentencesTest {
     }
 
     public static void main(String[] args) throws IOException {
+        if (!Document.isThere()) {
+            System.out.println("SentencesTest: the document is not there, nothing was compared");
+            return;
+        }
         SentencesTest test = new SentencesTest(new Document());
         for (Boundaries boundaries : BoundariesTest.all(new Due("BoundariesTest"), test.claims)) {
             boundaries.testAll();

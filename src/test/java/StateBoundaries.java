@@ -10,7 +10,7 @@ final class StateBoundaries extends Boundaries {
     void testAll() {
         twoSlots();
         whatASnapshotKeeps();
-        whatASnapshotOfNothingKeeps();
+        otherNumbersAreForgotten();
         nothingElseChanges();
         atMostFiveStates();
         whatAStateIs();
@@ -52,8 +52,8 @@ final class StateBoundaries extends Boundaries {
     }
 
     /** Calls that each change another part of what a snapshot keeps. */
-    private static final String[] PARTS = {"today", "the level", "a rate", "a new ramp", "a fee", "a new permit",
-        "a permit's ramp", "a permit's end", "a refund", "an amount of a fine", "a fine"};
+    private static final String[] PARTS = {"today", "the level", "a rate", "a new ramp", "a fee",
+        "a new permit", "a permit's ramp", "a permit's end", "a refund", "an amount of a fine", "a fine"};
 
     private static int change(RampPermits x, int part) {
         switch (part) {
@@ -105,21 +105,48 @@ final class StateBoundaries extends Boundaries {
         }
     }
 
-    private void whatASnapshotOfNothingKeeps() {
+    /** A ramp and a permit with each amount and each number of days above 0, cancelled. */
+    private static void fillNumbers(RampPermits x) {
+        x.addRamp(1700, 20, 500);
+        x.addRamp(1700, 20, 498);
+        x.buy(0, 0, 8, 299);
+        x.pass(-2);
+        x.pass(2);
+        x.refund(0);
+        x.move(0, 1);
+        x.cancel(0);
+    }
+
+    private void otherNumbersAreForgotten() {
         sentence("Snapshots", "makes all this as it was");
         RampPermits x = new RampPermits();
         x.take(1);
-        x.addRamp(1700, 2, 10);
-        x.buy(0, 0, 0, 0);
-        x.pass(-500);
+        fillNumbers(x);
+        int[] used = {1, 0, 8, 299, 498, 4500, 2243, 1757, 500, 1, 1, 0, 1};
+        for (int what = 0; what <= 12; what++) {
+            is("permit(0, " + what + ")", x.permit(0, what), used[what]);
+        }
+        x.take(0);
         x.restore(1);
         isTrue("restored is a new object's state", Calls.seasonOf(x).equals(Calls.seasonOf(new RampPermits())));
         is("permit(0, 0)", x.permit(0, 0), INVALID);
         is("ramp(0, 0)", x.ramp(0, 0), INVALID);
-        is("a first ramp", x.addRamp(1900, 1, 1), 0);
-        is("a first permit", x.buy(0, 5, 5, 0), 0);
-        is("its amount kept", x.permit(0, 6), 0);
-        is("its days used", x.permit(0, 9), 0);
+        is("a first ramp", x.addRamp(1, 2, 3), 0);
+        is("a first permit", x.buy(0, 5, 7, 4), 0);
+        int[] other = {0, 5, 7, 4, 3, 9, 0, 0, 0, 0, 0, 3, 0};
+        for (int what = 0; what <= 12; what++) {
+            is("permit(0, " + what + ") of another permit", x.permit(0, what), other[what]);
+        }
+        String season = Calls.seasonOf(x);
+        x.restore(0);
+        for (int what = 0; what <= 12; what++) {
+            is("permit(0, " + what + ") of the first permit", x.permit(0, what), used[what]);
+        }
+        is("ramp(0, 0)", x.ramp(0, 0), 1700);
+        is("ramp(0, 1)", x.ramp(0, 1), 20);
+        is("ramp(0, 2)", x.ramp(0, 2), 500);
+        x.undo();
+        isTrue("undone is the restore", season.equals(Calls.seasonOf(x)));
     }
 
     private void nothingElseChanges() {
@@ -161,7 +188,8 @@ final class StateBoundaries extends Boundaries {
     }
 
     private void whatAStateIs() {
-        sentence("Undo", "a state is everything but the text, the failure and the history (the snapshots belong to it)");
+        sentence("Undo",
+            "a state is everything but the text, the failure and the history (the snapshots belong to it)");
         RampPermits x = new RampPermits();
         x.take(1);
         Calls.run(x, "x");
@@ -302,8 +330,8 @@ final class StateBoundaries extends Boundaries {
         refusedOf(Scenes::fourRamps, "a fifth ramp with an end", (x, end) -> x.addRamp(end, 1, 1), INVALID, -1, 4001);
         refusedOf(Scenes::fourRamps, "a fifth ramp with boats", (x, b) -> x.addRamp(0, b, 1), INVALID, 0, 21);
         refusedOf(Scenes::fourRamps, "a fifth ramp with a fee", (x, fee) -> x.addRamp(0, 1, fee), INVALID, 0, 501);
-        int[][] invalid = {{-1, 2, 2, 0}, {2, 2, 2, 0}, {0, -1, 2, 0}, {0, 2, 182, 0}, {0, 2, 1, 0}, {0, 0, 30, 0},
-            {0, 2, 2, 301}, {0, 2, 2, -1}};
+        int[][] invalid = {{-1, 2, 2, 0}, {2, 2, 2, 0}, {0, -1, 2, 0}, {0, 2, 182, 0}, {0, 2, 1, 0},
+            {0, 0, 30, 0}, {0, 2, 2, 301}, {0, 2, 2, -1}};
         for (int[] a : invalid) {
             String call = "buy(" + a[0] + ", " + a[1] + ", " + a[2] + ", " + a[3] + ")";
             is(call + " with 12 permits", fullAndClosed(0).buy(a[0], a[1], a[2], a[3]), INVALID);
@@ -380,7 +408,8 @@ final class StateBoundaries extends Boundaries {
     }
 
     private void constants() {
-        sentence("Errors", "`INVALID_ARGUMENT = -100001`: An argument is out of range, or names something that does not exist");
+        sentence("Errors",
+            "`INVALID_ARGUMENT = -100001`: An argument is out of range, or names something that does not exist");
         is("an argument that is out of range", new RampPermits().setLevel(5001), -100001);
         is("an argument that names no ramp", new RampPermits().ramp(0, 0), -100001);
         is("an argument that names no permit", new RampPermits().cancel(0), -100001);
@@ -457,7 +486,8 @@ final class StateBoundaries extends Boundaries {
         refusedOf(Scenes::oneRamp, "restore without snapshots", RampPermits::restore, ILLEGAL, 0, 1);
         refused(() -> onlyIn(0), "restore(1) with one in 0", y -> y.restore(1), ILLEGAL);
         refused(() -> onlyIn(1), "restore(0) with one in 1", y -> y.restore(0), ILLEGAL);
-        is("restore of a slot that is empty again", Probe.after(() -> onlyIn(1), RampPermits::undo).get().restore(1), ILLEGAL);
+        is("restore of a slot that is empty again",
+            Probe.after(() -> onlyIn(1), RampPermits::undo).get().restore(1), ILLEGAL);
     }
 
     private static RampPermits onlyIn(int slot) {
