@@ -939,11 +939,12 @@ public final class RampPermits {
         }
 
         void prepare(State state) {
-            rows[next].copyFrom(state);
+            prepared().copyFrom(state);
         }
 
+        // The ring is never left; the row's number is looked at all the same, as LANGUAGE.md asks.
         State prepared() {
-            return rows[next];
+            return rows[isWithin(next, 0, MAX_HISTORY) ? next : 0];
         }
 
         void keep() {
@@ -1034,7 +1035,7 @@ public final class RampPermits {
                 return NO_NUMBER;
             }
             int value = 0;
-            for (int i = start; i < end; i++) {
+            for (int i = start; i < end && i < length; i++) {
                 value = value * 10 + characters[i] - '0';
             }
             return value;
